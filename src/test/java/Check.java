@@ -1,0 +1,46 @@
+/** Counts the calls of one test class whose answer is not the one that is due, and prints them. */
+final class Check {
+    interface Call {
+        Object answer();
+    }
+
+    private int checked = 0;
+    private int wrong = 0;
+
+    void is(String call, Object due, Call asked) {
+        Object got = answerOf(asked);
+        checked++;
+        if (!due.equals(got)) {
+            wrong++;
+            System.out.println(call + " answered " + got + ", due is " + due);
+        }
+    }
+
+    void outOfBounds(String call, Call asked) {
+        is(call, "throws.IndexOutOfBoundsException", asked);
+    }
+
+    void argument(String call, Call asked) {
+        is(call, "throws.IllegalArgumentException", asked);
+    }
+
+    void state(String call, Call asked) {
+        is(call, "throws.IllegalStateException", asked);
+    }
+
+    /** An exception is told by the name of its own class, so that one below it is wrong too. */
+    static Object answerOf(Call asked) {
+        try {
+            return asked.answer();
+        } catch (RuntimeException e) {
+            return "throws." + e.getClass().getSimpleName();
+        }
+    }
+
+    void end(String test) {
+        System.out.println(test + ": " + checked + " checked, " + wrong + " wrong");
+        if (wrong != 0 || checked == 0) {
+            System.exit(1);
+        }
+    }
+}
