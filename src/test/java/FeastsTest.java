@@ -1,0 +1,349 @@
+/** Promises 18 to 26: the feasts. The YEARS of the first CALENDAR begin on 0, 367, 733, 1099, 1465. */
+public final class FeastsTest {
+    private static final Check CHECK = new Check();
+
+    public static void main(String[] args) {
+        promise18Fixed();
+        promise18FixedByMoon();
+        promise19Nth();
+        promise19NthOfOtherLengths();
+        promise20By();
+        promise20ByMoon();
+        promise18To20WithTen();
+        promise21Shun();
+        promise22Feasts();
+        promise23Feast();
+        promise24On();
+        promise24OnTwoYearsAhead();
+        promise24OnAtTheEnds();
+        promise25Next();
+        promise26Meetings();
+        CHECK.end("FeastsTest");
+    }
+
+    private static AlmanacRoom room() {
+        AlmanacRoom x = new AlmanacRoom();
+        x.calendar(0, 0);
+        return x;
+    }
+
+    private static void feastIs(AlmanacRoom x, int feast, int year, int due) {
+        CHECK.is("feast(" + feast + ", " + year + ")", due, () -> x.feast(feast, year));
+    }
+
+    private static void promise18Fixed() {
+        AlmanacRoom y = new AlmanacRoom();
+        CHECK.outOfBounds("fixed(0, 0, 0) without calendars", () -> y.fixed(0, 0, 0));
+        AlmanacRoom x = room();
+        CHECK.outOfBounds("fixed(1, 13, 41)", () -> x.fixed(1, 13, 41));
+        CHECK.outOfBounds("fixed(-1, 0, 0)", () -> x.fixed(-1, 0, 0));
+        CHECK.argument("fixed(0, -1, 0)", () -> x.fixed(0, -1, 0));
+        CHECK.argument("fixed(0, 13, 0)", () -> x.fixed(0, 13, 0));
+        CHECK.argument("fixed(0, 0, -1)", () -> x.fixed(0, 0, -1));
+        CHECK.argument("fixed(0, 0, 41)", () -> x.fixed(0, 0, 41));
+        CHECK.is("fixed(0, 2, 20)", 0, () -> x.fixed(0, 2, 20));
+        CHECK.is("fixed(0, 11, 40)", 1, () -> x.fixed(0, 11, 40));
+        CHECK.is("fixed(0, 12, 3)", 2, () -> x.fixed(0, 12, 3));
+        CHECK.is("fixed(0, 0, 0)", 3, () -> x.fixed(0, 0, 0));
+        CHECK.is("fixed(0, 1, 30)", 4, () -> x.fixed(0, 1, 30));
+        feastIs(x, 0, 0, 81);
+        feastIs(x, 0, 1, 448);
+        feastIs(x, 1, 0, 366);
+        feastIs(x, 1, 1, 732);
+        feastIs(x, 2, 0, 339);
+        feastIs(x, 3, 3, 1099);
+        feastIs(x, 4, 0, 60);
+        x.setMonth(0, 1, 40);
+        feastIs(x, 4, 0, 61);
+    }
+
+    private static void promise18FixedByMoon() {
+        AlmanacRoom x = new AlmanacRoom();
+        x.calendar(2, 0);
+        x.fixed(0, 12, 40);
+        x.fixed(0, 12, 5);
+        feastIs(x, 0, 0, 382);
+        feastIs(x, 1, 0, 359);
+        feastIs(x, 0, 1, 737);
+        feastIs(x, 1, 1, 713);
+    }
+
+    private static void promise19Nth() {
+        AlmanacRoom x = room();
+        CHECK.outOfBounds("nth(1, 13, 0, 7)", () -> x.nth(1, 13, 0, 7));
+        CHECK.outOfBounds("nth(-1, 0, 1, 0)", () -> x.nth(-1, 0, 1, 0));
+        CHECK.argument("nth(0, -1, 1, 0)", () -> x.nth(0, -1, 1, 0));
+        CHECK.argument("nth(0, 13, 1, 0)", () -> x.nth(0, 13, 1, 0));
+        CHECK.argument("nth(0, 0, 0, 0)", () -> x.nth(0, 0, 0, 0));
+        CHECK.argument("nth(0, 0, 6, 0)", () -> x.nth(0, 0, 6, 0));
+        CHECK.argument("nth(0, 0, 1, -1)", () -> x.nth(0, 0, 1, -1));
+        CHECK.argument("nth(0, 0, 1, 7)", () -> x.nth(0, 0, 1, 7));
+        int[][] rules = {{0, 1, 0}, {0, 1, 6}, {0, 4, 0}, {0, 5, 0}, {0, 5, 2}, {0, 5, 3}, {1, 2, 2}, {12, 1, 6}};
+        int[] year0 = {0, 6, 21, 28, 30, 24, 44, 342};
+        int[] year1 = {371, 370, 392, 392, 394, 395, 408, 706};
+        for (int k = 0; k < rules.length; k++) {
+            int[] r = rules[k];
+            CHECK.is("nth(0, " + r[0] + ", " + r[1] + ", " + r[2] + ")", k, () -> x.nth(0, r[0], r[1], r[2]));
+            feastIs(x, k, 0, year0[k]);
+            feastIs(x, k, 1, year1[k]);
+        }
+    }
+
+    private static void promise19NthOfOtherLengths() {
+        AlmanacRoom x = room();
+        x.nth(0, 0, 3, 6);
+        x.nth(0, 0, 4, 0);
+        x.nth(0, 0, 3, 5);
+        x.nth(0, 0, 5, 0);
+        x.setMonth(0, 0, 20);
+        feastIs(x, 0, 0, 13);
+        feastIs(x, 1, 0, 14);
+        feastIs(x, 2, 0, 19);
+        feastIs(x, 3, 0, 14);
+        x.setMonth(0, 0, 40);
+        feastIs(x, 1, 0, 21);
+        feastIs(x, 3, 0, 35);
+        AlmanacRoom y = new AlmanacRoom();
+        y.calendar(2, 0);
+        y.nth(0, 12, 1, 3);
+        feastIs(y, 0, 0, 360);
+        feastIs(y, 0, 1, 710);
+    }
+
+    private static void promise20By() {
+        AlmanacRoom x = room();
+        CHECK.outOfBounds("by(0, 2, 0) without feasts", () -> x.by(0, 2, 0));
+        x.fixed(0, 0, 2);
+        CHECK.outOfBounds("by(1, 5, -1)", () -> x.by(1, 5, -1));
+        CHECK.outOfBounds("by(-1, 2, 0)", () -> x.by(-1, 2, 0));
+        CHECK.argument("by(0, 1, 0)", () -> x.by(0, 1, 0));
+        CHECK.argument("by(0, 5, 0)", () -> x.by(0, 5, 0));
+        CHECK.argument("by(0, 2, -1)", () -> x.by(0, 2, -1));
+        CHECK.argument("by(0, 2, 401)", () -> x.by(0, 2, 401));
+        CHECK.argument("by(0, 3, -1)", () -> x.by(0, 3, -1));
+        CHECK.argument("by(0, 3, 7)", () -> x.by(0, 3, 7));
+        CHECK.argument("by(0, 4, -1)", () -> x.by(0, 4, -1));
+        CHECK.argument("by(0, 4, 4)", () -> x.by(0, 4, 4));
+        CHECK.is("feasts() behind refusals", 1, () -> x.feasts());
+        CHECK.is("by(0, 2, 0)", 1, () -> x.by(0, 2, 0));
+        CHECK.is("by(0, 2, 400)", 2, () -> x.by(0, 2, 400));
+        CHECK.is("by(0, 3, 2)", 3, () -> x.by(0, 3, 2));
+        CHECK.is("by(0, 3, 1)", 4, () -> x.by(0, 3, 1));
+        CHECK.is("by(0, 3, 6)", 5, () -> x.by(0, 3, 6));
+        CHECK.is("by(2, 2, 400)", 6, () -> x.by(2, 2, 400));
+        int[] due = {2, 2, 402, 2, 8, 6, 802};
+        for (int k = 0; k < due.length; k++) {
+            feastIs(x, k, 0, due[k]);
+        }
+        feastIs(x, 3, 1, 373);
+    }
+
+    private static void promise20ByMoon() {
+        AlmanacRoom x = room();
+        x.calendar(0, 500);
+        x.fixed(1, 0, 14);
+        x.fixed(0, 0, 14);
+        for (int q = 0; q < 4; q++) {
+            int number = q;
+            CHECK.is("by(1, 4, " + q + ")", q + 2, () -> x.by(1, 4, number));
+        }
+        int[] due = {514, 14, 29, 36, 14, 22};
+        for (int k = 0; k < due.length; k++) {
+            feastIs(x, k, 0, due[k]);
+        }
+        CHECK.is("by(0, 2, 1)", 6, () -> x.by(0, 2, 1));
+        feastIs(x, 6, 1, 500 + 367 + 14 + 1);
+        x.moon(1000000);
+        feastIs(x, 4, 0, 15);
+        feastIs(x, 2, 0, 30);
+    }
+
+    private static void promise18To20WithTen() {
+        AlmanacRoom x = room();
+        for (int k = 0; k < 10; k++) {
+            int date = k;
+            CHECK.is("the FEAST " + k, k, () -> x.fixed(0, 0, date));
+        }
+        CHECK.state("an eleventh, fixed", () -> x.fixed(0, 0, 0));
+        CHECK.state("an eleventh, nth", () -> x.nth(0, 0, 1, 0));
+        CHECK.state("an eleventh, by", () -> x.by(0, 2, 0));
+        CHECK.outOfBounds("no CALENDAR ahead of ten, fixed", () -> x.fixed(1, 0, 0));
+        CHECK.outOfBounds("no CALENDAR ahead of ten, nth", () -> x.nth(1, 0, 1, 0));
+        CHECK.outOfBounds("no FEAST ahead of ten, by", () -> x.by(10, 2, 0));
+        CHECK.argument("no MONTH ahead of ten, fixed", () -> x.fixed(0, 13, 0));
+        CHECK.argument("no DATE ahead of ten, fixed", () -> x.fixed(0, 0, 41));
+        CHECK.argument("no n ahead of ten, nth", () -> x.nth(0, 0, 6, 0));
+        CHECK.argument("no WEEKDAY ahead of ten, nth", () -> x.nth(0, 0, 1, 7));
+        CHECK.argument("no how ahead of ten, by", () -> x.by(0, 1, 0));
+        CHECK.argument("no number ahead of ten, by", () -> x.by(0, 4, 4));
+        CHECK.is("feasts() of ten", 10, () -> x.feasts());
+        CHECK.is("all ten are on their DAYS", 512, () -> x.on(9));
+    }
+
+    private static void promise21Shun() {
+        AlmanacRoom x = room();
+        CHECK.outOfBounds("shun(0, 0) without feasts", () -> x.shun(0, 0));
+        x.fixed(0, 0, 6);
+        x.by(0, 2, 1);
+        x.by(0, 3, 0);
+        CHECK.outOfBounds("shun(3, 7)", () -> x.shun(3, 7));
+        CHECK.outOfBounds("shun(-1, 0)", () -> x.shun(-1, 0));
+        CHECK.argument("shun(0, -2)", () -> x.shun(0, -2));
+        CHECK.argument("shun(0, 7)", () -> x.shun(0, 7));
+        CHECK.is("shun(0, 6)", -1, () -> x.shun(0, 6));
+        feastIs(x, 0, 0, 7);
+        feastIs(x, 1, 0, 8);
+        feastIs(x, 2, 0, 7);
+        feastIs(x, 0, 1, 373);
+        CHECK.is("shun(1, 1)", -1, () -> x.shun(1, 1));
+        feastIs(x, 1, 0, 9);
+        CHECK.is("shun(2, 0)", -1, () -> x.shun(2, 0));
+        feastIs(x, 2, 0, 8);
+        CHECK.is("shun(0, 5)", 6, () -> x.shun(0, 5));
+        feastIs(x, 0, 0, 6);
+        CHECK.is("shun(0, 0)", 5, () -> x.shun(0, 0));
+        CHECK.is("shun(0, -1)", 0, () -> x.shun(0, -1));
+        CHECK.is("shun(0, -1) again", -1, () -> x.shun(0, -1));
+        feastIs(x, 0, 0, 6);
+        CHECK.is("on() goes by what is SHUNNED", 4, () -> x.on(8));
+    }
+
+    private static void promise22Feasts() {
+        AlmanacRoom x = room();
+        CHECK.is("feasts()", 0, () -> x.feasts());
+        x.fixed(0, 0, 0);
+        CHECK.is("feasts() behind fixed()", 1, () -> x.feasts());
+        x.nth(0, 0, 1, 0);
+        CHECK.is("feasts() behind nth()", 2, () -> x.feasts());
+        x.by(0, 2, 0);
+        CHECK.is("feasts() behind by()", 3, () -> x.feasts());
+        x.calendar(0, 0);
+        x.shun(0, 0);
+        CHECK.is("feasts() behind others", 3, () -> x.feasts());
+    }
+
+    private static void promise23Feast() {
+        AlmanacRoom x = room();
+        CHECK.outOfBounds("feast(0, 0) without feasts", () -> x.feast(0, 0));
+        x.calendar(2, 1000);
+        x.fixed(0, 11, 40);
+        x.fixed(1, 0, 0);
+        x.by(0, 2, 400);
+        CHECK.outOfBounds("feast(3, -1)", () -> x.feast(3, -1));
+        CHECK.outOfBounds("feast(-1, 0)", () -> x.feast(-1, 0));
+        CHECK.argument("feast(0, -1)", () -> x.feast(0, -1));
+        CHECK.argument("feast(0, 4000)", () -> x.feast(0, 4000));
+        feastIs(x, 0, 3999, 4000 * 366 + 1000 - 1);
+        feastIs(x, 2, 3999, 4000 * 366 + 1000 + 399);
+        feastIs(x, 1, 0, 1004);
+        feastIs(x, 1, 1, 1387);
+        AlmanacRoom y = new AlmanacRoom();
+        y.calendar(0, 1000000);
+        for (int month = 0; month < 12; month++) {
+            y.setMonth(0, month, 40);
+        }
+        y.leaps(0, 1, 0, 0);
+        y.fixed(0, 11, 40);
+        for (int k = 0; k < 9; k++) {
+            y.by(k, 2, 400);
+        }
+        feastIs(y, 0, 3999, 1000000 + 4000 * 481 - 1);
+        feastIs(y, 9, 3999, 1000000 + 4000 * 481 - 1 + 3600);
+    }
+
+    private static void promise24On() {
+        AlmanacRoom x = room();
+        CHECK.argument("on(-1)", () -> x.on(-1));
+        CHECK.argument("on(3000000)", () -> x.on(3000000));
+        x.calendar(1, 10);
+        x.fixed(0, 0, 10);
+        x.fixed(1, 0, 0);
+        x.fixed(0, 0, 11);
+        x.by(1, 2, 1);
+        x.fixed(0, 0, 10);
+        CHECK.is("on(9)", 0, () -> x.on(9));
+        CHECK.is("on(10): 0, 1 and 4", 19, () -> x.on(10));
+        CHECK.is("on(11): 2 and 3", 12, () -> x.on(11));
+        CHECK.is("on(12)", 0, () -> x.on(12));
+        CHECK.is("on(377): the next YEAR of 0", 17, () -> x.on(377));
+        CHECK.is("on(364): the next YEAR of 1", 2, () -> x.on(364));
+    }
+
+    private static void promise24OnTwoYearsAhead() {
+        AlmanacRoom x = room();
+        x.fixed(0, 0, 0);
+        x.by(0, 2, 400);
+        x.by(1, 2, 400);
+        x.by(2, 2, 400);
+        CHECK.is("on(400), told for the YEAR ahead", 2, () -> x.on(400));
+        CHECK.is("on(800), told for two YEARS ahead", 4, () -> x.on(800));
+        CHECK.is("on(1200), told for three YEARS ahead", 0, () -> x.on(1200));
+        CHECK.is("feast(3, 0) all the same", 1200, () -> x.feast(3, 0));
+        CHECK.is("on(767): one of the YEAR 1", 2, () -> x.on(767));
+        CHECK.is("on(1167): two of the YEAR 1", 4, () -> x.on(1167));
+        CHECK.is("on(366)", 0, () -> x.on(366));
+        CHECK.is("on(367)", 1, () -> x.on(367));
+    }
+
+    private static void promise24OnAtTheEnds() {
+        AlmanacRoom x = room();
+        x.fixed(0, 11, 40);
+        x.by(0, 2, 1);
+        int last = 4000 * 366 + 1000 - 1;
+        CHECK.is("on the last DAY of the last YEAR", 1, () -> x.on(last));
+        CHECK.is("on the first DAY behind it, date() tells -1", 0, () -> x.on(last + 1));
+        CHECK.is("on(2999999)", 0, () -> x.on(2999999));
+        CHECK.is("on the first DAY of the last YEAR", 2, () -> x.on(last - 365));
+        AlmanacRoom y = new AlmanacRoom();
+        y.calendar(0, 1000);
+        y.fixed(0, 0, 0);
+        CHECK.is("on(999) ahead of the EPOCH", 0, () -> y.on(999));
+        CHECK.is("on(1000)", 1, () -> y.on(1000));
+    }
+
+    private static void promise25Next() {
+        AlmanacRoom x = room();
+        CHECK.argument("next(0, 0)", () -> x.next(0, 0));
+        CHECK.argument("next(0, 61)", () -> x.next(0, 61));
+        CHECK.argument("next(-1, 1)", () -> x.next(-1, 1));
+        CHECK.argument("next(3000000, 1)", () -> x.next(3000000, 1));
+        CHECK.argument("next(2999999, 2)", () -> x.next(2999999, 2));
+        CHECK.argument("next(MAX, 60)", () -> x.next(Integer.MAX_VALUE, 60));
+        CHECK.is("next(0, 60) without feasts", -1, () -> x.next(0, 60));
+        x.fixed(0, 2, 0);
+        x.fixed(0, 2, 9);
+        CHECK.is("next(2, 59): up to 60", -1, () -> x.next(2, 59));
+        CHECK.is("next(2, 60): up to 61", 61, () -> x.next(2, 60));
+        CHECK.is("next(61, 1)", 61, () -> x.next(61, 1));
+        CHECK.is("next(62, 60)", 70, () -> x.next(62, 60));
+        CHECK.is("next(71, 60)", -1, () -> x.next(71, 60));
+        CHECK.is("next(2999940, 60)", -1, () -> x.next(2999940, 60));
+        CHECK.is("next(2999999, 1)", -1, () -> x.next(2999999, 1));
+    }
+
+    private static void promise26Meetings() {
+        AlmanacRoom x = room();
+        CHECK.argument("meetings(0, 0)", () -> x.meetings(0, 0));
+        CHECK.argument("meetings(0, 61)", () -> x.meetings(0, 61));
+        CHECK.argument("meetings(-1, 1)", () -> x.meetings(-1, 1));
+        CHECK.argument("meetings(3000000, 1)", () -> x.meetings(3000000, 1));
+        CHECK.argument("meetings(2999999, 2)", () -> x.meetings(2999999, 2));
+        CHECK.is("meetings(2999940, 60)", 0, () -> x.meetings(2999940, 60));
+        x.fixed(0, 0, 5);
+        x.fixed(0, 0, 5);
+        x.fixed(0, 0, 5);
+        x.fixed(0, 0, 9);
+        x.fixed(0, 0, 20);
+        CHECK.is("meetings(0, 60): three on 5", 1, () -> x.meetings(0, 60));
+        x.by(4, 2, 0);
+        CHECK.is("meetings(0, 60) with 20", 2, () -> x.meetings(0, 60));
+        CHECK.is("meetings(0, 20)", 1, () -> x.meetings(0, 20));
+        CHECK.is("meetings(0, 21)", 2, () -> x.meetings(0, 21));
+        CHECK.is("meetings(6, 15)", 1, () -> x.meetings(6, 15));
+        CHECK.is("meetings(5, 1)", 1, () -> x.meetings(5, 1));
+        CHECK.is("meetings(9, 1): one alone", 0, () -> x.meetings(9, 1));
+        x.calendar(0, 9);
+        x.fixed(1, 0, 0);
+        CHECK.is("meetings(9, 1) of two CALENDARS", 1, () -> x.meetings(9, 1));
+    }
+}
