@@ -618,7 +618,7 @@ public final class AlmanacRoom {
 
         abstract int monthsIn(int year);
 
-        /** As it would be by this rule; for the YEAR behind the last one too. */
+        /** As it would be by this rule; for YEARS behind the last one too, so that a YEAR has an end. */
         abstract int yearStartBy(LeapRule leapRule, int year);
 
         /** For the MONTH behind the last one of the YEAR too: there the next YEAR begins. */
@@ -634,7 +634,7 @@ public final class AlmanacRoom {
             }
             int year = 0;
             for (int step = 2048; step > 0; step /= 2) {
-                if (year + step < YEARS && yearStart(year + step) <= day) {
+                if (yearStart(year + step) <= day) {
                     year += step;
                 }
             }

@@ -18,6 +18,7 @@ public final class CalendarsTest {
         promise11Day();
         promise12Date();
         promise12DateAtTheEnds();
+        promise12EachYear();
         CHECK.end("CalendarsTest");
     }
 
@@ -344,6 +345,23 @@ public final class CalendarsTest {
         int last = x.ofYear(2, 3999, 2) + x.ofYear(2, 3999, 1) - 1;
         CHECK.is("the last DAY by the MOON", 3999, () -> x.date(2, last, 0));
         is4(x, 2, last + 1, -1, -1, -1, -1);
+    }
+
+    /** A new room for each hundred YEARS: an object is used for at most 512 calls. */
+    private static void promise12EachYear() {
+        for (int sort = 0; sort < 3; sort++) {
+            for (int from = 0; from < 4000; from += 100) {
+                AlmanacRoom x = new AlmanacRoom();
+                x.calendar(sort, 20);
+                for (int y = from; y < from + 100; y++) {
+                    int year = y;
+                    int start = x.ofYear(0, year, 2);
+                    String of = " the DAY on which " + year + " of sort " + sort + " begins";
+                    CHECK.is("on" + of, year, () -> x.date(0, start, 0));
+                    CHECK.is("ahead of" + of, year - 1, () -> x.date(0, start - 1, 0));
+                }
+            }
+        }
     }
 
     private static void is4(AlmanacRoom x, int calendar, int day, int... due) {

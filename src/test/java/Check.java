@@ -28,12 +28,18 @@ final class Check {
         is(call, "throws.IllegalStateException", asked);
     }
 
-    /** An exception is told by the name of its own class, so that one below it is wrong too. */
+    /**
+     * An exception is told by the name of its own class, so that one below it is wrong too, and so
+     * is one that the room has not thrown itself: it must look ahead of using a library's list.
+     */
     static Object answerOf(Call asked) {
         try {
             return asked.answer();
         } catch (RuntimeException e) {
-            return "throws." + e.getClass().getSimpleName();
+            String told = "throws." + e.getClass().getSimpleName();
+            StackTraceElement[] from = e.getStackTrace();
+            boolean own = from.length == 0 || from[0].getClassName().matches("(Almanac|Plain)Room.*");
+            return own ? told : told + " out of " + from[0].getClassName();
         }
     }
 

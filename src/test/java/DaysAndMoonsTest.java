@@ -78,6 +78,10 @@ public final class DaysAndMoonsTest {
         x.moon(4999999);
         CHECK.is("at the end of the DAY ahead", 4, () -> x.quarter(4, 0));
         CHECK.is("so not on this one: 34.530587", 34, () -> x.quarter(5, 0));
+        x.moon(852059);
+        CHECK.is("three QUARTERS behind it are 23.000000", 23, () -> x.quarter(0, 3));
+        x.moon(852058);
+        CHECK.is("three QUARTERS behind it are 22.999999", 22, () -> x.quarter(0, 3));
     }
 
     private static void promise16Quarters() {

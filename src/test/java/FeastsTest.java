@@ -281,6 +281,11 @@ public final class FeastsTest {
         CHECK.is("feast(3, 0) all the same", 1200, () -> x.feast(3, 0));
         CHECK.is("on(767): one of the YEAR 1", 2, () -> x.on(767));
         CHECK.is("on(1167): two of the YEAR 1", 4, () -> x.on(1167));
+        for (int from = 1; from < 350; from += 59) {
+            int first = from;
+            CHECK.is("next(" + first + ", 59): no YEARS ahead of 0", -1, () -> x.next(first, 59));
+        }
+        CHECK.is("next(401, 60): one YEAR ahead of 1 alone", -1, () -> x.next(401, 60));
         CHECK.is("on(366)", 0, () -> x.on(366));
         CHECK.is("on(367)", 1, () -> x.on(367));
     }
