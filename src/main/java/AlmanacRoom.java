@@ -43,8 +43,12 @@ public final class AlmanacRoom {
     // ---- calendars
 
     public int calendar(int sort, int epoch) throws IllegalArgumentException, IllegalStateException {
-        checkArgument(isWithin(sort, BY_MONTHS, BY_MOON), "there is no such sort");
-        checkArgument(isWithin(epoch, 0, MOST_EPOCH), "the EPOCH is not 0 to 1000000");
+        if (!isWithin(sort, BY_MONTHS, BY_MOON)) {
+            throw new IllegalArgumentException("there is no such sort");
+        }
+        if (!isWithin(epoch, 0, MOST_EPOCH)) {
+            throw new IllegalArgumentException("the EPOCH is not 0 to 1000000");
+        }
         if (calendarList.size() >= MOST_CALENDARS) {
             throw new IllegalStateException("there are 5 CALENDARS");
         }
@@ -55,14 +59,16 @@ public final class AlmanacRoom {
     public int setMonth(int calendar, int month, int length)
             throws IndexOutOfBoundsException, IllegalArgumentException {
         LaidCalendar laid = laidNumbered(calendar);
-        checkArgument(isWithin(month, 0, MONTHS - 1), "the MONTH is not 0 to 11");
-        checkArgument(isWithin(length, 20, 40), "the LENGTH is not 20 to 40");
+        checkLaidMonth(month);
+        if (!isWithin(length, 20, 40)) {
+            throw new IllegalArgumentException("the LENGTH is not 20 to 40");
+        }
         return laid.changeLength(month, length);
     }
 
     public int leapMonth(int calendar, int month) throws IndexOutOfBoundsException, IllegalArgumentException {
         LaidCalendar laid = laidNumbered(calendar);
-        checkArgument(isWithin(month, 0, MONTHS - 1), "the MONTH is not 0 to 11");
+        checkLaidMonth(month);
         int before = laid.leapMonthNumber;
         laid.leapMonthNumber = month;
         return before;
@@ -77,7 +83,9 @@ public final class AlmanacRoom {
     }
 
     public int moon(int start) throws IllegalArgumentException {
-        checkArgument(isWithin(start, 0, Moon.ROUND - 1), "START is not 0 to 29530587");
+        if (!isWithin(start, 0, Moon.ROUND - 1)) {
+            throw new IllegalArgumentException("START is not 0 to 29530587");
+        }
         int before = sky.start;
         sky.start = start;
         return before;
@@ -96,7 +104,9 @@ public final class AlmanacRoom {
     public int ofYear(int calendar, int year, int what) throws IndexOutOfBoundsException, IllegalArgumentException {
         Calendar asked = calendarNumbered(calendar);
         checkYear(year);
-        checkArgument(isWithin(what, 0, 2), "what is not 0 to 2");
+        if (!isWithin(what, 0, 2)) {
+            throw new IllegalArgumentException("what is not 0 to 2");
+        }
         return yearPart(asked, year, what);
     }
 
@@ -114,14 +124,18 @@ public final class AlmanacRoom {
         checkMonth(asked, year, month);
         int start = asked.monthStart(year, month);
         int dates = asked.monthStart(year, month + 1) - start;
-        checkArgument(isWithin(date, 0, dates - 1), "there is no such DATE in the MONTH");
+        if (!isWithin(date, 0, dates - 1)) {
+            throw new IllegalArgumentException("there is no such DATE in the MONTH");
+        }
         return start + date;
     }
 
     public int date(int calendar, int day, int what) throws IndexOutOfBoundsException, IllegalArgumentException {
         Calendar asked = calendarNumbered(calendar);
         checkDay(day);
-        checkArgument(isWithin(what, 0, 3), "what is not 0 to 3");
+        if (!isWithin(what, 0, 3)) {
+            throw new IllegalArgumentException("what is not 0 to 3");
+        }
         return datePart(asked, day, what);
     }
 
@@ -146,7 +160,9 @@ public final class AlmanacRoom {
     public int quarters(int from, int to, int q) throws IllegalArgumentException {
         checkDay(from);
         checkDay(to);
-        checkArgument(to >= from, "the one DAY is behind the other one");
+        if (to < from) {
+            throw new IllegalArgumentException("the one DAY is behind the other one");
+        }
         checkQuarter(q);
         return sky.countAhead(to, q) - sky.countAhead(from, q);
     }
@@ -163,8 +179,10 @@ public final class AlmanacRoom {
     public int fixed(int calendar, int month, int date)
             throws IndexOutOfBoundsException, IllegalArgumentException, IllegalStateException {
         Calendar of = calendarNumbered(calendar);
-        checkArgument(isWithin(month, 0, MONTHS), "the MONTH is not 0 to 12");
-        checkArgument(isWithin(date, 0, 40), "the DATE is not 0 to 40");
+        checkFeastMonth(month);
+        if (!isWithin(date, 0, 40)) {
+            throw new IllegalArgumentException("the DATE is not 0 to 40");
+        }
         checkRoomForFeast();
         return addFeast(new DateFeast(of, month, date));
     }
@@ -172,9 +190,13 @@ public final class AlmanacRoom {
     public int nth(int calendar, int month, int n, int w)
             throws IndexOutOfBoundsException, IllegalArgumentException, IllegalStateException {
         Calendar of = calendarNumbered(calendar);
-        checkArgument(isWithin(month, 0, MONTHS), "the MONTH is not 0 to 12");
-        checkArgument(isWithin(n, 1, LAST_NTH), "n is not 1 to 5");
-        checkArgument(isWithin(w, 0, WEEK - 1), "the WEEKDAY is not 0 to 6");
+        checkFeastMonth(month);
+        if (!isWithin(n, 1, LAST_NTH)) {
+            throw new IllegalArgumentException("n is not 1 to 5");
+        }
+        if (!isWithin(w, 0, WEEK - 1)) {
+            throw new IllegalArgumentException("the WEEKDAY is not 0 to 6");
+        }
         checkRoomForFeast();
         return addFeast(new WeekdayFeast(of, month, n, w));
     }
@@ -182,15 +204,21 @@ public final class AlmanacRoom {
     public int by(int feast, int how, int number)
             throws IndexOutOfBoundsException, IllegalArgumentException, IllegalStateException {
         Calendar of = feastNumbered(feast).calendar;
-        checkArgument(isWithin(how, DAYS_BEHIND, QUARTER_BEHIND), "how is not 2 to 4");
-        checkArgument(isWithin(number, 0, mostBehind(how)), "the number is not one for this rule");
+        if (!isWithin(how, DAYS_BEHIND, QUARTER_BEHIND)) {
+            throw new IllegalArgumentException("how is not 2 to 4");
+        }
+        if (!isWithin(number, 0, mostBehind(how))) {
+            throw new IllegalArgumentException("the number is not one for this rule");
+        }
         checkRoomForFeast();
         return addFeast(new BehindFeast(of, feast, how, number, sky));
     }
 
     public int shun(int feast, int w) throws IndexOutOfBoundsException, IllegalArgumentException {
         Feast changed = feastNumbered(feast);
-        checkArgument(isWithin(w, NONE, WEEK - 1), "the WEEKDAY is not -1 to 6");
+        if (!isWithin(w, NONE, WEEK - 1)) {
+            throw new IllegalArgumentException("the WEEKDAY is not -1 to 6");
+        }
         int before = changed.shunned;
         changed.shunned = w;
         return before;
@@ -252,7 +280,8 @@ public final class AlmanacRoom {
     public int wander(int feast, int from, int many) throws IndexOutOfBoundsException, IllegalArgumentException {
         Calendar of = feastNumbered(feast).calendar;
         checkYears(from, many, 60);
-        int least = Integer.MAX_VALUE;
+        // No DAY of a YEAR has so great a number.
+        int least = DAYS;
         int greatest = NONE;
         for (int year = from; year < from + many; year++) {
             int day = toldDay(of, feast, year);
@@ -440,52 +469,86 @@ public final class AlmanacRoom {
 
     private static void checkLeaps(int sort, int a, int b, int c) {
         if (sort == BY_MONTHS) {
-            checkArgument(isWithin(a, 0, 1000), "A is not 0 to 1000");
-            checkArgument(isWithin(b, 0, 1000), "B is not 0 to 1000");
-            checkArgument(isWithin(c, 0, 1000), "C is not 0 to 1000");
+            if (!isWithin(a, 0, 1000)) {
+                throw new IllegalArgumentException("A is not 0 to 1000");
+            }
+            if (!isWithin(b, 0, 1000)) {
+                throw new IllegalArgumentException("B is not 0 to 1000");
+            }
+            if (!isWithin(c, 0, 1000)) {
+                throw new IllegalArgumentException("C is not 0 to 1000");
+            }
         } else {
-            checkArgument(isWithin(a, 1, 100), "the CYCLE is not 1 to 100");
-            checkArgument(isWithin(b, 0, a), "the LEAPS are not 0 to the CYCLE");
-            checkArgument(isWithin(c, 0, a - 1), "the SHIFT is not 0 to the CYCLE less 1");
+            if (!isWithin(a, 1, 100)) {
+                throw new IllegalArgumentException("the CYCLE is not 1 to 100");
+            }
+            if (!isWithin(b, 0, a)) {
+                throw new IllegalArgumentException("the LEAPS are not 0 to the CYCLE");
+            }
+            if (!isWithin(c, 0, a - 1)) {
+                throw new IllegalArgumentException("the SHIFT is not 0 to the CYCLE less 1");
+            }
         }
     }
 
     private static void checkYear(int year) {
-        checkArgument(isWithin(year, 0, YEARS - 1), "the YEAR is not 0 to 3999");
+        if (!isWithin(year, 0, YEARS - 1)) {
+            throw new IllegalArgumentException("the YEAR is not 0 to 3999");
+        }
     }
 
     private static void checkYears(int from, int many, int most) {
         checkYear(from);
-        checkArgument(isWithin(many, 1, most), "there are too many YEARS, or none");
-        checkArgument(from + many <= YEARS, "the last YEAR is above 3999");
+        if (!isWithin(many, 1, most)) {
+            throw new IllegalArgumentException("there are too many YEARS, or none");
+        }
+        if (from + many > YEARS) {
+            throw new IllegalArgumentException("the last YEAR is above 3999");
+        }
     }
 
     private static void checkMonth(Calendar calendar, int year, int month) {
-        checkArgument(isWithin(month, 0, calendar.monthsIn(year) - 1), "there is no such MONTH in the YEAR");
+        if (!isWithin(month, 0, calendar.monthsIn(year) - 1)) {
+            throw new IllegalArgumentException("there is no such MONTH in the YEAR");
+        }
+    }
+
+    private static void checkLaidMonth(int month) {
+        if (!isWithin(month, 0, MONTHS - 1)) {
+            throw new IllegalArgumentException("the MONTH is not 0 to 11");
+        }
+    }
+
+    private static void checkFeastMonth(int month) {
+        if (!isWithin(month, 0, MONTHS)) {
+            throw new IllegalArgumentException("the MONTH is not 0 to 12");
+        }
     }
 
     private static void checkDay(int day) {
-        checkArgument(isWithin(day, 0, DAYS - 1), "the DAY is not 0 to 2999999");
+        if (!isWithin(day, 0, DAYS - 1)) {
+            throw new IllegalArgumentException("the DAY is not 0 to 2999999");
+        }
     }
 
     private static void checkSpan(int from, int days) {
-        checkArgument(isWithin(days, 1, 60), "the DAYS are not 1 to 60");
+        if (!isWithin(days, 1, 60)) {
+            throw new IllegalArgumentException("the DAYS are not 1 to 60");
+        }
         checkDay(from);
-        checkArgument(from + days <= DAYS, "the last DAY is above 2999999");
+        if (from + days > DAYS) {
+            throw new IllegalArgumentException("the last DAY is above 2999999");
+        }
     }
 
     private static void checkQuarter(int q) {
-        checkArgument(isWithin(q, 0, 3), "the QUARTER is not 0 to 3");
+        if (!isWithin(q, 0, 3)) {
+            throw new IllegalArgumentException("the QUARTER is not 0 to 3");
+        }
     }
 
     private static boolean isWithin(int number, int least, int greatest) {
         return number >= least && number <= greatest;
-    }
-
-    private static void checkArgument(boolean holds, String text) {
-        if (!holds) {
-            throw new IllegalArgumentException(text);
-        }
     }
 
     /** The MOON, in millionths of a DAY. */

@@ -6,6 +6,8 @@ import java.lang.reflect.Modifier;
 import java.nio.charset.StandardCharsets;
 import java.nio.file.Files;
 import java.nio.file.Path;
+import java.util.ArrayList;
+import java.util.List;
 import java.util.Set;
 import java.util.TreeSet;
 import java.util.regex.Matcher;
@@ -50,7 +52,54 @@ public final class LanguageTest {
     private static final String[] RULED_OUT = {
         "->", "::", "@", "synchronized", "assert ", "finally", "try ", "catch", "package ", "protected ",
         "import java.util.*", "Exact(", "equals(", "hashCode(", "toString(", "instanceof Object", "volatile ",
-        "Random", "Thread", "System.", "java.io", "java.nio", "java.time", "Double.", "\" +", "+ \"", "\t"};
+        "Random", "Thread", "System.", "java.io", "java.nio", "java.time", "Double.", "MAX_VALUE", "MIN_VALUE",
+        "\" +", "+ \"", "\t"};
+
+    /** A text or a sign as Java writes them, so that what stands in one is not taken for code. */
+    private static final String WRITTEN = "\"(?:[^\"\\\\\n]|\\\\.)*\"|'(?:[^'\\\\\n]|\\\\.)*'";
+
+    /** Of the exceptions of rule 6 those that the document names: nothing is caught, so all reach the caller. */
+    private static final Pattern FINE_THROW = Pattern.compile(
+        "throw\\s+new\\s+(?:IllegalArgument|IllegalState|IndexOutOfBounds)Exception\\s*"
+            + "\\(\\s*(?:\"(?:[^\"\\\\\n]|\\\\.)*\")?\\s*\\)\\s*;");
+
+    private static final String[] FINE_THROWS = {
+        "throw new IllegalStateException();",
+        "throw new IllegalArgumentException(\"a written text\");",
+        "throw new IllegalArgumentException(\"a \\\"written\\\" text (1); /* so */ // and so\");",
+        "throw /* as the document says */ new\n    IndexOutOfBoundsException(\n    \"a text\" // written\n    );",
+        "// throw thrown;",
+        "/* throw\n thrown; */",
+        "String told = \"throw thrown;\";",
+        "char quote = '\"'; throw new IllegalStateException(); char other = '\"';",
+        "int day() throws IllegalStateException;",
+        "int throwing = 1;"};
+
+    private static final String[] OTHER_THROWS = {
+        "throw new IllegalArgumentException(text);",
+        "throw new IllegalArgumentException(TEXT);",
+        "throw new IllegalArgumentException(told());",
+        "throw new IllegalArgumentException(\"a text\" + number);",
+        "throw new IllegalArgumentException(\"a text\" + \" of two\");",
+        "throw new IllegalArgumentException(wrong ? \"a text\" : \"another\");",
+        "throw new IllegalArgumentException((\"a text\"));",
+        "throw new IllegalArgumentException(\"a text\", cause);",
+        "throw new IllegalArgumentException(\"a text\".substring(1));",
+        "throw new IllegalArgumentException(\"a text\").fillInStackTrace();",
+        "throw new IndexOutOfBoundsException(number);",
+        "throw\n    new IllegalArgumentException(\n    text);",
+        "throw /* \" */ new IllegalArgumentException(text); // \"",
+        "char quote = '\"'; throw new IllegalArgumentException(text); char other = '\"';",
+        "throw new java.util.NoSuchElementException();",
+        "throw new ArithmeticException(\"a text\");",
+        "throw new OwnException(\"a text\");",
+        "throw new IllegalStateException() { };",
+        "throw (IllegalStateException) new IllegalStateException();",
+        "throw (new IllegalStateException());",
+        "throw(thrown);",
+        "throw wrong();",
+        "throw thrown;",
+        "throw null;"};
 
     public static void main(String[] args) throws IOException {
         face();
@@ -60,6 +109,7 @@ public final class LanguageTest {
         }
         int inside = AlmanacRoom.class.getDeclaredClasses().length;
         CHECK.is("twelve classes at the most", true, () -> inside < 12);
+        throwsAreFound();
         text(Files.readString(Path.of(args.length > 0 ? args[0] : "src/main/java/AlmanacRoom.java"),
             StandardCharsets.ISO_8859_1));
         CHECK.end("LanguageTest");
@@ -149,13 +199,41 @@ public final class LanguageTest {
             String name = imports.group(1);
             CHECK.is("import " + name, "java.util.ArrayList", () -> name);
         }
-        Matcher thrown = Pattern.compile("throw (.*);").matcher(text);
-        Pattern fine = Pattern.compile("new (IllegalArgument|IllegalState|IndexOutOfBounds)Exception\\(.*\\)");
-        while (thrown.find()) {
-            String told = thrown.group(1);
-            CHECK.is("throw " + told, true, () -> fine.matcher(told).matches());
-        }
+        CHECK.is("throws of another form", List.of(), () -> throwsOfAnotherForm(text));
         methodsShort(text);
+    }
+
+    /** The numbers of the lines that hold a throw which is neither throw new E() nor throw new E("a written text"). */
+    private static List<Integer> throwsOfAnotherForm(String text) {
+        String code = withoutComments(text);
+        List<Integer> found = new ArrayList<>();
+        Matcher word = Pattern.compile(WRITTEN + "|\\bthrow\\b").matcher(code);
+        Matcher fine = FINE_THROW.matcher(code);
+        while (word.find()) {
+            fine.region(word.start(), code.length());
+            if (word.group().equals("throw") && !fine.lookingAt()) {
+                found.add((int) code.substring(0, word.end()).lines().count());
+            }
+        }
+        return found;
+    }
+
+    /** Each comment becomes one blank and its own line ends; a text that looks like a comment stays. */
+    private static String withoutComments(String text) {
+        Matcher part = Pattern.compile(WRITTEN + "|//[^\n]*|/\\*(?s:.*?)\\*/").matcher(text);
+        return part.replaceAll(found -> found.group().startsWith("/")
+            ? " " + found.group().replaceAll("[^\n]", "")
+            : Matcher.quoteReplacement(found.group()));
+    }
+
+    /** The test of the throws would be worth nothing if it passed everything: it is tried on both kinds. */
+    private static void throwsAreFound() {
+        for (String fine : FINE_THROWS) {
+            CHECK.is("fine: " + fine, List.of(), () -> throwsOfAnotherForm("if (wrong) {\n" + fine + "\n}\n"));
+        }
+        for (String other : OTHER_THROWS) {
+            CHECK.is("found: " + other, List.of(2), () -> throwsOfAnotherForm("if (wrong) {\n" + other + "\n}\n"));
+        }
     }
 
     /** By the file's indentation: a method begins and ends with the same number of blanks, 4 or 8. */
