@@ -4,10 +4,30 @@ final class Check {
         Object answer();
     }
 
+    private static final int MOST_SECONDS = 120;
+
     private int checked = 0;
     private int wrong = 0;
+    private volatile String last = "nothing";
+
+    /** A test takes a few seconds: a call that does not end is wrong too, and must not be waited for. */
+    Check() {
+        Thread watch = new Thread(() -> {
+            try {
+                Thread.sleep(MOST_SECONDS * 1000L);
+            } catch (InterruptedException e) {
+                return;
+            }
+            System.out.println("not at its end after " + MOST_SECONDS + " seconds; asked last: " + last);
+            System.out.flush();
+            Runtime.getRuntime().halt(1);
+        });
+        watch.setDaemon(true);
+        watch.start();
+    }
 
     void is(String call, Object due, Call asked) {
+        last = call;
         Object got = answerOf(asked);
         checked++;
         if (!due.equals(got)) {

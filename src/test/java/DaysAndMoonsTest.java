@@ -6,8 +6,11 @@ public final class DaysAndMoonsTest {
         promise13Weekday();
         promise14Age();
         promise15Quarter();
+        promise14AgeComesRound();
         promise15QuarterByStart();
+        promise15QuarterOnTheStroke();
         promise16Quarters();
+        promise16QuartersOfEachDay();
         promise17MeanYear();
         CHECK.end("DaysAndMoonsTest");
     }
@@ -37,6 +40,25 @@ public final class DaysAndMoonsTest {
         x.moon(1);
         CHECK.is("age(0), START 1", 29530587, () -> x.age(0));
         CHECK.is("age(1), START 1", 999999, () -> x.age(1));
+    }
+
+    /** It is 0 where a DAY begins with a NEW MOON, and comes round behind 29530587. */
+    private static void promise14AgeComesRound() {
+        AlmanacRoom x = new AlmanacRoom();
+        x.moon(5000000);
+        CHECK.is("age(5), NEW as it begins", 0, () -> x.age(5));
+        CHECK.is("age(4), a DAY ahead", 28530588, () -> x.age(4));
+        CHECK.is("age(6), a DAY behind", 1000000, () -> x.age(6));
+        x.moon(4999999);
+        CHECK.is("age(5), NEW a millionth ahead", 1, () -> x.age(5));
+        x.moon(5000001);
+        CHECK.is("age(5), NEW a millionth behind", 29530587, () -> x.age(5));
+        x.moon(16095668);
+        CHECK.is("age(2999999), NEW as it begins", 0, () -> x.age(2999999));
+        x.moon(16095667);
+        CHECK.is("age(2999999), NEW a millionth ahead", 1, () -> x.age(2999999));
+        x.moon(16095669);
+        CHECK.is("age(2999999), NEW a millionth behind", 29530587, () -> x.age(2999999));
     }
 
     private static void promise15Quarter() {
@@ -82,6 +104,47 @@ public final class DaysAndMoonsTest {
         CHECK.is("three QUARTERS behind it are 23.000000", 23, () -> x.quarter(0, 3));
         x.moon(852058);
         CHECK.is("three QUARTERS behind it are 22.999999", 22, () -> x.quarter(0, 3));
+    }
+
+    /** A QUARTER that is just when a DAY begins, or a millionth ahead, 0 to 101590 ROUNDS behind START. */
+    private static void promise15QuarterOnTheStroke() {
+        int[][] starts = {
+            {23, 23000000, 15617353, 8234706, 852059},
+            {1500000, 23313128, 15930481, 8547834, 1165187},
+            {2999999, 16095668, 8713021, 1330374, 23478315}};
+        for (int[] of : starts) {
+            int day = of[0];
+            for (int quarter = 0; quarter < 4; quarter++) {
+                int q = quarter;
+                AlmanacRoom x = new AlmanacRoom();
+                String told = " of " + day + ", QUARTER " + q;
+                x.moon(of[q + 1]);
+                CHECK.is("the first from the DAY ahead" + told, day, () -> x.quarter(day - 1, q));
+                CHECK.is("the first from the DAY" + told, day, () -> x.quarter(day, q));
+                CHECK.is("none on the DAY ahead" + told, 0, () -> x.quarters(day - 1, day, q));
+                x.moon(of[q + 1] - 1);
+                CHECK.is("ahead: the first from the DAY ahead" + told, day - 1, () -> x.quarter(day - 1, q));
+                CHECK.is("ahead: the first from the DAY" + told, day + 29, () -> x.quarter(day, q));
+                CHECK.is("ahead: one on the DAY ahead" + told, 1, () -> x.quarters(day - 1, day, q));
+                x.moon(of[q + 1] + 1);
+                CHECK.is("behind: the first from the DAY" + told, day, () -> x.quarter(day, q));
+                CHECK.is("behind: none on the DAY ahead" + told, 0, () -> x.quarters(day - 1, day, q));
+            }
+        }
+    }
+
+    private static void promise16QuartersOfEachDay() {
+        int[][] on = {{0, 29, 59, 88}, {7, 36, 66, 95}, {14, 44, 73, 103}, {22, 51, 81, 110}};
+        for (int quarter = 0; quarter < 4; quarter++) {
+            int q = quarter;
+            AlmanacRoom x = new AlmanacRoom();
+            for (int day = 0; day < 95; day++) {
+                int d = day;
+                int due = d == on[q][0] || d == on[q][1] || d == on[q][2] || d == on[q][3] ? 1 : 0;
+                CHECK.is("quarters(" + d + ", " + (d + 1) + ", " + q + ")", due, () -> x.quarters(d, d + 1, q));
+                CHECK.is("quarters(" + d + ", " + d + ", " + q + ")", 0, () -> x.quarters(d, d, q));
+            }
+        }
     }
 
     private static void promise16Quarters() {

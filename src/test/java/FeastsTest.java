@@ -5,19 +5,32 @@ public final class FeastsTest {
     public static void main(String[] args) {
         promise18Fixed();
         promise18FixedByMoon();
+        promise18FixedOnTheLast();
         promise19Nth();
         promise19NthOfOtherLengths();
+        promise19NthOfEachLength();
         promise20By();
         promise20ByMoon();
+        promise20ByWeekday();
+        promise20ByQuarter();
         promise18To20WithTen();
         promise21Shun();
+        promise21ShunEachWeekday();
+        promise21ShunGoesOn();
+        promise21ShunIntoTheNextYear();
         promise22Feasts();
         promise23Feast();
+        promise23FeastBehindChanges();
         promise24On();
         promise24OnTwoYearsAhead();
+        promise24OnTwoYearsAheadOfEachSort();
+        promise24OnAllTen();
         promise24OnAtTheEnds();
+        promise24OnOfOneCalendarAlone();
         promise25Next();
+        promise25NextOfMany();
         promise26Meetings();
+        promise26MeetingsOfYears();
         CHECK.end("FeastsTest");
     }
 
@@ -68,6 +81,37 @@ public final class FeastsTest {
         feastIs(x, 1, 1, 713);
     }
 
+    /** The last DATE that is there, and the first that is not: in the YEARS 0 (a LEAP YEAR), 1 and 3999. */
+    private static void promise18FixedOnTheLast() {
+        int[][] due = {
+            {1, 28, 59, 426, 1464693}, {1, 29, 60, 427, 1464694}, {1, 30, 60, 427, 1464694},
+            {0, 30, 30, 397, 1464664}, {0, 31, 30, 397, 1464664},
+            {11, 29, 365, 732, 1464999}, {11, 30, 366, 732, 1464999}, {11, 31, 366, 732, 1464999},
+            {12, 0, 336, 703, 1464970}, {12, 40, 366, 732, 1464999}};
+        AlmanacRoom x = room();
+        for (int k = 0; k < due.length; k++) {
+            x.fixed(0, due[k][0], due[k][1]);
+            feastIs(x, k, 0, due[k][2]);
+            feastIs(x, k, 1, due[k][3]);
+            feastIs(x, k, 3999, due[k][4]);
+        }
+        int[][] byMoon = {
+            {0, 28, 28, 411}, {0, 29, 28, 412}, {0, 30, 28, 412}, {11, 0, 324, 708},
+            {12, 0, 354, 708}, {12, 28, 382, 736}, {12, 29, 382, 737}, {12, 30, 382, 737}};
+        AlmanacRoom y = new AlmanacRoom();
+        y.calendar(2, 0);
+        for (int k = 0; k < byMoon.length; k++) {
+            y.fixed(0, byMoon[k][0], byMoon[k][1]);
+            feastIs(y, k, 0, byMoon[k][2]);
+            feastIs(y, k, 1, byMoon[k][3]);
+        }
+        AlmanacRoom z = room();
+        z.setMonth(0, 11, 40);
+        z.fixed(0, 11, 40);
+        feastIs(z, 0, 0, 376);
+        feastIs(z, 0, 1, 752);
+    }
+
     private static void promise19Nth() {
         AlmanacRoom x = room();
         CHECK.outOfBounds("nth(1, 13, 0, 7)", () -> x.nth(1, 13, 0, 7));
@@ -108,6 +152,35 @@ public final class FeastsTest {
         y.nth(0, 12, 1, 3);
         feastIs(y, 0, 0, 360);
         feastIs(y, 0, 1, 710);
+    }
+
+    /** Of the MONTH 0, which begins on a WEEKDAY 0: by length the DAYS for the n from 1 to 5. */
+    private static void promise19NthOfEachLength() {
+        nthOf(20, 5, 5, 12, 19, 19, 19);
+        nthOf(20, 6, 6, 13, 13, 13, 13);
+        nthOf(21, 6, 6, 13, 20, 20, 20);
+        nthOf(27, 5, 5, 12, 19, 26, 26);
+        nthOf(27, 6, 6, 13, 20, 20, 20);
+        nthOf(28, 0, 0, 7, 14, 21, 21);
+        nthOf(28, 6, 6, 13, 20, 27, 27);
+        nthOf(29, 0, 0, 7, 14, 21, 28);
+        nthOf(29, 1, 1, 8, 15, 22, 22);
+        nthOf(35, 0, 0, 7, 14, 21, 28);
+        nthOf(35, 6, 6, 13, 20, 27, 34);
+        nthOf(36, 0, 0, 7, 14, 21, 35);
+        nthOf(36, 1, 1, 8, 15, 22, 29);
+        nthOf(40, 4, 4, 11, 18, 25, 39);
+        nthOf(40, 5, 5, 12, 19, 26, 33);
+    }
+
+    private static void nthOf(int length, int w, int... due) {
+        AlmanacRoom x = room();
+        x.setMonth(0, 0, length);
+        for (int n = 1; n <= 5; n++) {
+            int f = x.nth(0, 0, n, w);
+            int on = due[n - 1];
+            CHECK.is("the " + n + ". WEEKDAY " + w + " of " + length + " DAYS", on, () -> x.feast(f, 0));
+        }
     }
 
     private static void promise20By() {
@@ -156,6 +229,44 @@ public final class FeastsTest {
         x.moon(1000000);
         feastIs(x, 4, 0, 15);
         feastIs(x, 2, 0, 30);
+    }
+
+    /** From each WEEKDAY to each: on the FEAST itself or up to 6 DAYS later. */
+    private static void promise20ByWeekday() {
+        int[][] due = {
+            {0, 1, 2, 3, 4, 5, 6}, {7, 1, 2, 3, 4, 5, 6}, {7, 8, 2, 3, 4, 5, 6}, {7, 8, 9, 3, 4, 5, 6},
+            {7, 8, 9, 10, 4, 5, 6}, {7, 8, 9, 10, 11, 5, 6}, {7, 8, 9, 10, 11, 12, 6}, {7, 8, 9, 10, 11, 12, 13}};
+        for (int day = 0; day < due.length; day++) {
+            AlmanacRoom x = room();
+            x.fixed(0, 0, day);
+            for (int w = 0; w < 7; w++) {
+                x.by(0, 3, w);
+                feastIs(x, w + 1, 0, due[day][w]);
+            }
+        }
+    }
+
+    /** On the FEAST itself or later: the DAYS around each of the first QUARTERS. */
+    private static void promise20ByQuarter() {
+        int[][] due = {
+            {0, 0, 7, 14, 22}, {1, 29, 7, 14, 22}, {6, 29, 7, 14, 22}, {7, 29, 7, 14, 22}, {8, 29, 36, 14, 22},
+            {13, 29, 36, 14, 22}, {14, 29, 36, 14, 22}, {15, 29, 36, 44, 22}, {21, 29, 36, 44, 22},
+            {22, 29, 36, 44, 22}, {23, 29, 36, 44, 51}};
+        for (int[] of : due) {
+            AlmanacRoom x = room();
+            x.fixed(0, 0, of[0]);
+            for (int q = 0; q < 4; q++) {
+                x.by(0, 4, q);
+                feastIs(x, q + 1, 0, of[q + 1]);
+            }
+        }
+        AlmanacRoom y = room();
+        y.moon(29530587);
+        y.fixed(0, 0, 0);
+        y.by(0, 4, 0);
+        y.by(0, 4, 3);
+        feastIs(y, 1, 0, 29);
+        feastIs(y, 2, 0, 51);
     }
 
     private static void promise18To20WithTen() {
@@ -208,6 +319,64 @@ public final class FeastsTest {
         CHECK.is("on() goes by what is SHUNNED", 4, () -> x.on(8));
     }
 
+    /** One DAY later, from 6 to 0 too, and on the six others not at all. */
+    private static void promise21ShunEachWeekday() {
+        for (int w = 0; w < 7; w++) {
+            AlmanacRoom x = room();
+            for (int date = 0; date < 8; date++) {
+                x.fixed(0, 0, date);
+                x.shun(date, w);
+                feastIs(x, date, 0, date % 7 == w ? date + 1 : date);
+            }
+        }
+    }
+
+    /** FEASTS by one that SHUNS go by the DAY on which that is then, and SHUN on their own. */
+    private static void promise21ShunGoesOn() {
+        AlmanacRoom x = room();
+        x.fixed(0, 0, 14);
+        x.by(0, 2, 7);
+        x.by(0, 3, 0);
+        x.by(0, 4, 2);
+        x.by(3, 2, 0);
+        feastsAre(x, 14, 21, 14, 14, 14);
+        x.shun(0, 0);
+        feastsAre(x, 15, 22, 21, 44, 44);
+        x.shun(1, 1);
+        feastsAre(x, 15, 23, 21, 44, 44);
+        x.shun(2, 0);
+        feastsAre(x, 15, 23, 22, 44, 44);
+        x.shun(3, 2);
+        feastsAre(x, 15, 23, 22, 45, 45);
+        x.shun(4, 3);
+        feastsAre(x, 15, 23, 22, 45, 46);
+        x.shun(0, -1);
+        feastsAre(x, 14, 21, 15, 14, 14);
+        CHECK.is("on(14)", 1 + 8 + 16, () -> x.on(14));
+        CHECK.is("on(15)", 4, () -> x.on(15));
+    }
+
+    private static void feastsAre(AlmanacRoom x, int... due) {
+        for (int k = 0; k < due.length; k++) {
+            feastIs(x, k, 0, due[k]);
+        }
+    }
+
+    private static void promise21ShunIntoTheNextYear() {
+        AlmanacRoom x = room();
+        x.fixed(0, 11, 40);
+        x.shun(0, 2);
+        feastIs(x, 0, 0, 367);
+        CHECK.is("on(366)", 0, () -> x.on(366));
+        CHECK.is("on(367), told for the YEAR ahead", 1, () -> x.on(367));
+        x.shun(0, 4);
+        feastIs(x, 0, 0, 366);
+        feastIs(x, 0, 1, 733);
+        feastIs(x, 0, 3999, 1465000);
+        CHECK.is("on(1464999)", 0, () -> x.on(1464999));
+        CHECK.is("on(1465000), behind the YEAR 3999", 0, () -> x.on(1465000));
+    }
+
     private static void promise22Feasts() {
         AlmanacRoom x = room();
         CHECK.is("feasts()", 0, () -> x.feasts());
@@ -251,6 +420,39 @@ public final class FeastsTest {
         feastIs(y, 9, 3999, 1000000 + 4000 * 481 - 1 + 3600);
     }
 
+    /** Asked ahead of each change and behind it: what has been told once may not be kept. */
+    private static void promise23FeastBehindChanges() {
+        AlmanacRoom x = room();
+        x.calendar(2, 10);
+        x.fixed(0, 2, 0);
+        x.by(0, 4, 2);
+        x.fixed(1, 1, 0);
+        x.nth(0, 11, 5, 0);
+        twoYearsAre(x, 61, 428, 73, 428, 59, 442, 364, 728);
+        x.setMonth(0, 0, 40);
+        twoYearsAre(x, 70, 446, 73, 457, 59, 442, 371, 749);
+        x.leapMonth(0, 1);
+        twoYearsAre(x, 71, 446, 73, 457, 59, 442, 371, 749);
+        x.leaps(0, 0, 0, 0);
+        twoYearsAre(x, 70, 445, 73, 457, 59, 442, 371, 749);
+        x.leaps(1, 1, 0, 0);
+        twoYearsAre(x, 70, 445, 73, 457, 59, 413, 371, 749);
+        x.moon(12000000);
+        twoYearsAre(x, 70, 445, 85, 469, 41, 395, 371, 749);
+        x.shun(0, 0);
+        twoYearsAre(x, 71, 445, 85, 469, 41, 395, 371, 749);
+    }
+
+    /** By turns the YEARS 0 and 1 of each FEAST, and by on() too. */
+    private static void twoYearsAre(AlmanacRoom x, int... due) {
+        for (int k = 0; k < due.length; k++) {
+            int f = k / 2;
+            int day = due[k];
+            feastIs(x, f, k % 2, day);
+            CHECK.is("on(" + day + ") has the FEAST " + f, 1, () -> x.on(day) >> f & 1);
+        }
+    }
+
     private static void promise24On() {
         AlmanacRoom x = room();
         CHECK.argument("on(-1)", () -> x.on(-1));
@@ -290,6 +492,70 @@ public final class FeastsTest {
         CHECK.is("on(367)", 1, () -> x.on(367));
     }
 
+    /** The last DAY of the second YEAR behind the one it is told for, and the first DAY of the third. */
+    private static void promise24OnTwoYearsAheadOfEachSort() {
+        int[] thirdYear = {1099, 1063, 1092};
+        for (int sort = 0; sort < 3; sort++) {
+            AlmanacRoom x = new AlmanacRoom();
+            x.calendar(sort, 0);
+            x.fixed(0, 0, 0);
+            x.by(0, 2, 400);
+            x.by(1, 2, 400);
+            int first = thirdYear[sort];
+            x.by(2, 2, first - 1 - 800);
+            x.by(2, 2, first - 800);
+            String of = ", sort " + sort;
+            feastIs(x, 3, 0, first - 1);
+            feastIs(x, 4, 0, first);
+            CHECK.is("on the last DAY of the YEAR 2" + of, 8, () -> x.on(first - 1));
+            CHECK.is("on the first DAY of the YEAR 3, but for the FEAST 0" + of, 1, () -> x.on(first));
+            int begins = x.ofYear(0, 1, 2);
+            CHECK.is("the YEAR two behind the YEAR 1" + of, 3, () -> x.date(0, begins + 800, 0));
+            CHECK.is("told for two YEARS ahead of that" + of, 4, () -> x.on(begins + 800));
+            CHECK.is("told for one YEAR ahead" + of, 2, () -> x.on(begins + 400));
+        }
+    }
+
+    private static void promise24OnAllTen() {
+        AlmanacRoom x = room();
+        x.calendar(1, 5);
+        x.calendar(2, 0);
+        for (int k = 0; k < 4; k++) {
+            x.fixed(0, 0, 29);
+            x.fixed(1, 0, 24);
+        }
+        x.fixed(2, 1, 0);
+        x.by(8, 2, 0);
+        CHECK.is("on(28)", 0, () -> x.on(28));
+        CHECK.is("on(29): all ten", 1023, () -> x.on(29));
+        CHECK.is("on(30)", 0, () -> x.on(30));
+        CHECK.is("next(0, 30)", 29, () -> x.next(0, 30));
+        CHECK.is("next(0, 29)", -1, () -> x.next(0, 29));
+        CHECK.is("meetings(0, 60)", 1, () -> x.meetings(0, 60));
+        x.shun(9, 1);
+        CHECK.is("on(29) but for the last", 511, () -> x.on(29));
+        CHECK.is("on(30): the last alone", 512, () -> x.on(30));
+    }
+
+    /** A DAY that is ahead of or behind one CALENDAR, and in the other one. */
+    private static void promise24OnOfOneCalendarAlone() {
+        AlmanacRoom x = new AlmanacRoom();
+        x.calendar(1, 0);
+        x.calendar(0, 367);
+        x.fixed(1, 0, 0);
+        x.fixed(0, 0, 12);
+        x.by(1, 2, 1);
+        CHECK.is("on(366): ahead of the CALENDAR 1, and the other has its 12", 2, () -> x.on(366));
+        CHECK.is("on(367): the CALENDAR 1 begins", 1 + 4, () -> x.on(367));
+        int end = 1417466;
+        CHECK.is("date() of the CALENDAR 0 tells -1", -1, () -> x.date(0, end, 0));
+        int year = x.date(1, end, 0);
+        int begins = x.ofYear(1, year + 1, 2);
+        CHECK.is("on a DAY behind the CALENDAR 0", 1, () -> x.on(begins));
+        int last = x.feast(1, 3999);
+        CHECK.is("the last one of the CALENDAR 0", true, () -> (x.on(last) & 2) != 0);
+    }
+
     private static void promise24OnAtTheEnds() {
         AlmanacRoom x = room();
         x.fixed(0, 11, 40);
@@ -324,6 +590,40 @@ public final class FeastsTest {
         CHECK.is("next(71, 60)", -1, () -> x.next(71, 60));
         CHECK.is("next(2999940, 60)", -1, () -> x.next(2999940, 60));
         CHECK.is("next(2999999, 1)", -1, () -> x.next(2999999, 1));
+    }
+
+    /** The first DAY of many, wherever it stands among the FEASTS' numbers. */
+    private static void promise25NextOfMany() {
+        AlmanacRoom x = room();
+        x.fixed(0, 0, 20);
+        x.fixed(0, 0, 5);
+        x.fixed(0, 0, 12);
+        x.by(0, 2, 347);
+        int[][] due = {{0, 60, 5}, {5, 1, 5}, {6, 60, 12}, {6, 6, -1}, {6, 7, 12}, {12, 60, 12}, {13, 60, 20},
+            {20, 1, 20}, {21, 60, -1}, {307, 60, -1}, {308, 60, 367}, {367, 60, 367}, {368, 60, 372}};
+        for (int[] of : due) {
+            CHECK.is("next(" + of[0] + ", " + of[1] + ")", of[2], () -> x.next(of[0], of[1]));
+        }
+    }
+
+    /** FEASTS told for two YEARS MEET as well; one FEAST by itself does not. */
+    private static void promise26MeetingsOfYears() {
+        AlmanacRoom x = room();
+        x.fixed(0, 0, 0);
+        x.by(0, 2, 367);
+        CHECK.is("on(367), told for 0 and 1", 3, () -> x.on(367));
+        CHECK.is("meetings(367, 1)", 1, () -> x.meetings(367, 1));
+        CHECK.is("meetings(307, 60): up to 366", 0, () -> x.meetings(307, 60));
+        CHECK.is("meetings(308, 60): up to 367", 1, () -> x.meetings(308, 60));
+        CHECK.is("meetings(368, 60)", 0, () -> x.meetings(368, 60));
+        CHECK.is("meetings(0, 60): one on 0", 0, () -> x.meetings(0, 60));
+        for (int date = 1; date < 5; date++) {
+            x.fixed(0, 0, date * 7);
+            x.fixed(0, 0, date * 7);
+        }
+        CHECK.is("meetings(0, 60): 7, 14, 21 and 28", 4, () -> x.meetings(0, 60));
+        CHECK.is("meetings(7, 22): from the first to the last of them", 4, () -> x.meetings(7, 22));
+        CHECK.is("meetings(8, 20): but for both", 2, () -> x.meetings(8, 20));
     }
 
     private static void promise26Meetings() {

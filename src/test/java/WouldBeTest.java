@@ -4,10 +4,15 @@ public final class WouldBeTest {
 
     public static void main(String[] args) {
         promise27Drift();
+        promise27DriftAtTheEnds();
         promise28BeginsWith();
+        promise28BeginsAsLaid();
         promise29Wander();
         promise29WanderAside();
+        promise29WanderOfDays();
+        promise29WanderOverMonths();
         promise30Digest();
+        promise30DigestOfOneOfEach();
         promise30DigestOfAll();
         nothingIsChanged();
         CHECK.end("WouldBeTest");
@@ -33,6 +38,31 @@ public final class WouldBeTest {
         CHECK.is("drift(2, 0, 1): 354", 354, () -> x.drift(2, 0, 1));
         CHECK.is("drift(0, 2, 1): 367 - 354", 13, () -> x.drift(0, 2, 1));
         CHECK.is("drift(0, 2, 3999): behind the other's YEAR 3999", -1, () -> x.drift(0, 2, 3999));
+    }
+
+    /** A DAY ahead of the other's first one, on it and behind it; on the other's last DAY and behind that. */
+    private static void promise27DriftAtTheEnds() {
+        int[][] due = {{99, -1}, {100, 0}, {101, 1}, {100 + 239, 239}, {100 + 240, 0},
+            {100 + 959999, 239}, {100 + 960000, -1}, {1000000, -1}};
+        for (int[] of : due) {
+            AlmanacRoom x = new AlmanacRoom();
+            x.calendar(0, 100);
+            x.leaps(0, 0, 0, 0);
+            for (int month = 0; month < 12; month++) {
+                x.setMonth(0, month, 20);
+            }
+            x.calendar(0, of[0]);
+            CHECK.is("drift(1, 0, 0) of one that begins on " + of[0], of[1], () -> x.drift(1, 0, 0));
+            CHECK.is("drift(1, 1, 0) of the same", 0, () -> x.drift(1, 1, 0));
+            CHECK.is("drift(1, 1, 3999) of the same", 0, () -> x.drift(1, 1, 3999));
+        }
+        AlmanacRoom y = new AlmanacRoom();
+        y.calendar(2, 29);
+        y.calendar(0, 28);
+        y.calendar(0, 29);
+        CHECK.is("drift(1, 0, 0): a DAY ahead of the first MONTH by the MOON", -1, () -> y.drift(1, 0, 0));
+        CHECK.is("drift(2, 0, 0): on its first DAY", 0, () -> y.drift(2, 0, 0));
+        CHECK.is("drift(0, 1, 0)", 1, () -> y.drift(0, 1, 0));
     }
 
     private static void promise28BeginsWith() {
@@ -63,6 +93,31 @@ public final class WouldBeTest {
         CHECK.is("beginsWith(2, 1, 1, 0, 1)", 383, () -> x.beginsWith(2, 1, 1, 0, 1));
         CHECK.is("the rule is as before", 7 + 10 * 366 + 3, () -> x.ofYear(0, 10, 2));
         CHECK.is("the CYCLE is as before", 30, () -> x.leaps(1, 30, 11, 14));
+    }
+
+    /** What beginsWith() tells is what ofYear() tells as soon as leaps() has put that rule in its place. */
+    private static void promise28BeginsAsLaid() {
+        int[][][] rules = {
+            {{4, 0, 0}, {0, 0, 0}, {1, 0, 0}, {4, 100, 400}, {6, 4, 9}, {1000, 999, 997}, {1000, 1000, 1000},
+                {1, 1, 1}},
+            {{30, 11, 14}, {1, 0, 0}, {1, 1, 0}, {100, 100, 99}, {100, 1, 99}, {19, 7, 18}, {2, 1, 1}, {7, 0, 6}}};
+        int[] years = {0, 1, 2, 18, 19, 99, 100, 101, 999, 1000, 3998, 3999};
+        for (int sort = 0; sort < 3; sort++) {
+            for (int[] rule : rules[Math.min(sort, 1)]) {
+                AlmanacRoom x = new AlmanacRoom();
+                x.calendar(sort, 5000);
+                int[] told = new int[years.length];
+                for (int k = 0; k < years.length; k++) {
+                    told[k] = x.beginsWith(0, rule[0], rule[1], rule[2], years[k]);
+                }
+                x.leaps(0, rule[0], rule[1], rule[2]);
+                for (int k = 0; k < years.length; k++) {
+                    int year = years[k];
+                    int due = told[k];
+                    CHECK.is("ofYear(0, " + year + ", 2) of sort " + sort, due, () -> x.ofYear(0, year, 2));
+                }
+            }
+        }
     }
 
     private static void promise29Wander() {
@@ -107,6 +162,68 @@ public final class WouldBeTest {
         CHECK.is("wander(4, 0, 3): the YEAR 0 alone", 0, () -> x.wander(4, 0, 3));
         CHECK.is("wander(4, 1, 2)", -1, () -> x.wander(4, 1, 2));
         CHECK.is("wander(4, 0, 4): 364 and 364", 0, () -> x.wander(4, 0, 4));
+    }
+
+    /** The first and the last of so many YEARS count, those ahead of and behind them do not. */
+    private static void promise29WanderOfDays() {
+        AlmanacRoom x = new AlmanacRoom();
+        x.calendar(0, 0);
+        x.leaps(0, 1000, 0, 0);
+        x.fixed(0, 11, 40);
+        CHECK.is("wander(0, 1, 60): none of them a LEAP YEAR", 0, () -> x.wander(0, 1, 60));
+        CHECK.is("wander(0, 0, 60): the first one", 1, () -> x.wander(0, 0, 60));
+        CHECK.is("wander(0, 940, 60): up to 999", 0, () -> x.wander(0, 940, 60));
+        CHECK.is("wander(0, 941, 60): the last one is 1000", 1, () -> x.wander(0, 941, 60));
+        CHECK.is("wander(0, 1000, 1): that alone", 0, () -> x.wander(0, 1000, 1));
+        CHECK.is("wander(0, 3999, 1)", 0, () -> x.wander(0, 3999, 1));
+        x.fixed(0, 0, 0);
+        CHECK.is("wander(1, 0, 60): the number is 0 in each", 0, () -> x.wander(1, 0, 60));
+        x.by(1, 2, 366);
+        CHECK.is("feast(2, 0): the last DAY of a LEAP YEAR", 366, () -> x.feast(2, 0));
+        CHECK.is("wander(2, 0, 60): in its YEAR once", 0, () -> x.wander(2, 0, 60));
+        CHECK.is("wander(2, 1, 60): never", -1, () -> x.wander(2, 1, 60));
+        CHECK.is("wander(2, 3999, 1): behind the YEAR 3999", -1, () -> x.wander(2, 3999, 1));
+        x.by(1, 2, 365);
+        CHECK.is("wander(3, 3999, 1): on its last DAY", 0, () -> x.wander(3, 3999, 1));
+        x.shun(3, 2);
+        CHECK.is("feast(3, 3999) is SHUNNED into no YEAR", 3999 * 366 + 4 + 366, () -> x.feast(3, 3999));
+        CHECK.is("wander(3, 3999, 1) of that", -1, () -> x.wander(3, 3999, 1));
+        CHECK.is("wander(3, 3998, 2): 3998 alone", 0, () -> x.wander(3, 3998, 2));
+    }
+
+    /** The number in the YEAR, not the DATE in the MONTH: 30 and later is in the next MONTH. */
+    private static void promise29WanderOverMonths() {
+        AlmanacRoom x = new AlmanacRoom();
+        x.calendar(0, 0);
+        x.fixed(0, 0, 30);
+        x.by(0, 3, 0);
+        CHECK.is("wander(1, 0, 2): 35, 32", 3, () -> x.wander(1, 0, 2));
+        CHECK.is("wander(1, 0, 3): 35, 32, 30", 5, () -> x.wander(1, 0, 3));
+        CHECK.is("wander(1, 1, 2): 32, 30", 2, () -> x.wander(1, 1, 2));
+        CHECK.is("wander(1, 4, 2): 33, 30", 3, () -> x.wander(1, 4, 2));
+    }
+
+    /** The numbers are those of a third program, which wraps around by hand. */
+    private static void promise30DigestOfOneOfEach() {
+        AlmanacRoom x = new AlmanacRoom();
+        x.calendar(0, 1000);
+        x.calendar(1, 2000);
+        x.calendar(2, 1500);
+        x.calendar(0, 1000000);
+        x.calendar(2, 1000000);
+        x.fixed(0, 2, 20);
+        x.nth(1, 11, 5, 3);
+        x.by(0, 4, 2);
+        x.by(2, 3, 0);
+        x.by(3, 2, 400);
+        x.fixed(2, 12, 40);
+        x.nth(3, 0, 4, 6);
+        x.by(6, 2, 0);
+        x.fixed(4, 0, 0);
+        x.by(8, 4, 3);
+        CHECK.is("digest() of five and ten", 3202007266003320170L, () -> x.digest());
+        x.moon(29530587);
+        CHECK.is("digest() by another START", -6468635341786856021L, () -> x.digest());
     }
 
     private static void promise30Digest() {
