@@ -691,13 +691,14 @@ public final class AlmanacRoom {
             return yearStartBy(rule, year);
         }
 
+        /** Asks yearStartBy() itself: so one method less stands open beneath digest(). */
         final int yearOf(int day) {
-            if (day < yearStart(0) || day >= yearStart(YEARS)) {
+            if (day < yearStartBy(rule, 0) || day >= yearStartBy(rule, YEARS)) {
                 return NONE;
             }
             int year = 0;
             for (int step = 2048; step > 0; step /= 2) {
-                if (yearStart(year + step) <= day) {
+                if (yearStartBy(rule, year + step) <= day) {
                     year += step;
                 }
             }
